@@ -239,7 +239,7 @@ public final class Genericwood {
       throws IndexOutOfBoundsException, IllegalArgumentException {
     needName(name);
     needWorld(world);
-    visited.enter(world);
+    visited.enter(world, false);
     return visited.codeOf(name);
   }
 
@@ -369,20 +369,17 @@ public final class Genericwood {
       throws IndexOutOfBoundsException, UnsupportedOperationException, IllegalArgumentException {
     needClosed(formula);
     needWorld(world);
-    visited.enter(world);
+    visited.enter(world, false);
     return visited.agrees(formula);
   }
 
   public int against(int formula)
       throws IndexOutOfBoundsException, UnsupportedOperationException, NoSuchElementException {
     needClosed(formula);
-    int worlds = order.ends();
+    int lacking = order.ends() & ~visited.worldsOf(formula);
     for (int world = 0; world < order.size(); world++) {
-      if (contains(worlds, world)) {
-        visited.enter(world);
-        if (!visited.agrees(formula)) {
-          return world;
-        }
+      if (contains(lacking, world)) {
+        return world;
       }
     }
     throw new NoSuchElementException("the formula is so in every world");
@@ -409,9 +406,9 @@ public final class Genericwood {
     int worlds = order.ends();
     for (int world = 0; world < order.size(); world++) {
       if (contains(worlds, world)) {
-        visited.enter(world);
+        visited.enter(world, false);
         int stayed = visited.codeOf(name);
-        visited.enterMoved(world);
+        visited.enter(world, true);
         if (visited.codeOf(name) != stayed) {
           return false;
         }
@@ -458,15 +455,18 @@ public final class Genericwood {
 
   public boolean isSound() {
     for (int f = 0; f < formulas.size(); f++) {
-      if (formulas.open(f) == 0 && !isForcedAsValued(f)) {
-        return false;
+      if (formulas.open(f) == 0) {
+        int worth = valued.judge(f);
+        if (!isForcedAsValued(forced.judge(f), worth) || worth != visited.worldsOf(f)) {
+          return false;
+        }
       }
     }
     int worlds = order.ends();
     for (int world = 0; world < order.size(); world++) {
       if (contains(worlds, world)) {
-        visited.enter(world);
-        if (!isTrueAsValued(world) || !isAlikeAsBecome(world)) {
+        visited.enter(world, false);
+        if (!isAlikeAsBecome(world)) {
           return false;
         }
       }
@@ -474,22 +474,10 @@ public final class Genericwood {
     return true;
   }
 
-  /** Tells whether just the conditions with their cuts within its value force a formula. */
-  private boolean isForcedAsValued(int formula) {
-    int worth = valued.judge(formula);
-    int forcing = forced.judge(formula);
+  /** Tells whether just those conditions force of which the cut is within the value. */
+  private boolean isForcedAsValued(int forcing, int worth) {
     for (int p = 0; p < order.size(); p++) {
       if (contains(forcing, p) != isPart(order.endsOf(p), worth)) {
-        return false;
-      }
-    }
-    return true;
-  }
-
-  /** Tells whether just the closed formulas valued by the world entered are so in it. */
-  private boolean isTrueAsValued(int world) {
-    for (int f = 0; f < formulas.size(); f++) {
-      if (formulas.open(f) == 0 && contains(valued.judge(f), world) != visited.agrees(f)) {
         return false;
       }
     }
@@ -610,6 +598,7 @@ public final class Genericwood {
   private static final class Order {
     private int count;
     private int changes;
+    private int ends;
     private final int[] downs = new int[MOST_CONDITIONS];
     private final int[] images = new int[MOST_CONDITIONS];
 
@@ -633,6 +622,7 @@ public final class Genericwood {
       int condition = count;
       put(downs, condition, 1 << condition);
       put(images, condition, condition);
+      ends |= 1 << condition;
       count++;
       changes++;
       return condition;
@@ -671,6 +661,7 @@ public final class Genericwood {
           put(downs, p, down(p) | more);
         }
       }
+      ends &= ~(1 << other);
       changes++;
     }
 
@@ -684,18 +675,23 @@ public final class Genericwood {
 
     /** The last conditions. */
     int ends() {
-      int set = 0;
-      for (int p = 0; p < count; p++) {
-        if (down(p) == 1 << p) {
-          set |= 1 << p;
-        }
-      }
-      return set;
+      return ends;
     }
 
     /** The last conditions below a condition. */
     int endsOf(int condition) {
-      return down(condition) & ends();
+      return at(downs, condition) & ends;
+    }
+
+    /** The conditions below which there is none of a set. */
+    int avoiding(int set) {
+      int found = 0;
+      for (int p = 0; p < count; p++) {
+        if ((at(downs, p) & set) == 0) {
+          found |= 1 << p;
+        }
+      }
+      return found;
     }
 
     int image(int condition) {
@@ -721,7 +717,7 @@ public final class Genericwood {
     }
   }
 
-  /** The names with their pairs and ranks; a pair is kept as its name and 16 times its condition. */
+  /** The names with their pairs and ranks; a pair is its name and 16 times its condition. */
   private static final class Names {
     private final Order order;
     private int count;
@@ -779,7 +775,6 @@ public final class Genericwood {
 
     int add() {
       int name = count;
-      put(sizes, name, 0);
       count++;
       changed();
       return name;
@@ -804,7 +799,7 @@ public final class Genericwood {
       rankAll(heights, NONE, NONE);
     }
 
-    /** Ranks all names as if one name had one more pair. A pair's name is lower, so ranked ahead. */
+    /** Ranks all names as if one had one more pair. The name in a pair is lower, so ranked ahead. */
     private void rankAll(int[] row, int name, int lower) {
       for (int n = 0; n < count; n++) {
         int height = n == name ? 1 + at(row, lower) : 0;
@@ -1068,14 +1063,10 @@ public final class Genericwood {
       // What is asked of two names rests on pairs of names with a lower sum of numbers.
       for (int sum = 0; sum <= 2 * (names.size() - 1); sum++) {
         for (int n = Math.max(0, sum - names.size() + 1); n < names.size() && n <= sum; n++) {
-          put(likes, n * MOST_NAMES + sum - n, likened(n, sum - n));
+          put(likes, n * MOST_NAMES + sum - n, partly(n, sum - n) & partly(sum - n, n));
           put(insides, n * MOST_NAMES + sum - n, contained(n, sum - n));
         }
       }
-    }
-
-    private int likened(int name, int other) {
-      return partly(name, other) & partly(other, name);
     }
 
     /** What is so of all in the first name being in the second one. */
@@ -1117,7 +1108,7 @@ public final class Genericwood {
     }
 
     int unless(int condition, int set) {
-      return denied(order.endsOf(condition)) | set;
+      return order.ends() & ~order.endsOf(condition) | set;
     }
 
     int settled(int set) {
@@ -1136,13 +1127,7 @@ public final class Genericwood {
     }
 
     final int denied(int set) {
-      int forcing = 0;
-      for (int p = 0; p < order.size(); p++) {
-        if ((order.down(p) & set) == 0) {
-          forcing |= 1 << p;
-        }
-      }
-      return forcing;
+      return order.avoiding(set);
     }
 
     final int along(int condition, int set) {
@@ -1171,8 +1156,8 @@ public final class Genericwood {
     }
 
     int settled(int set) {
-      // Denied twice: below each condition below there is one of the set.
-      return denied(denied(set));
+      // To avoid those that avoid the set: below each condition below there is one of it.
+      return order.avoiding(order.avoiding(set));
     }
   }
 
@@ -1190,38 +1175,40 @@ public final class Genericwood {
       this.formulas = formulas;
     }
 
-    void enter(int world) {
+    /** Finds what all names become in a world, each moved by the map if so asked. */
+    void enter(int world, boolean isMoved) {
       for (int n = 0; n < names.size(); n++) {
         int code = 0;
         for (int k = 0; k < names.pairsOf(n); k++) {
-          code |= elementIf(order.stands(world, names.promise(n, k)), names.lower(n, k));
+          int promise = names.promise(n, k);
+          if (order.stands(world, isMoved ? order.image(promise) : promise)) {
+            code |= 1 << codeOf(names.lower(n, k));
+          }
         }
         put(codes, n, code);
       }
-    }
-
-    /** Enters a world with each name as the map moves it. */
-    void enterMoved(int world) {
-      for (int n = 0; n < names.size(); n++) {
-        int code = 0;
-        for (int k = 0; k < names.pairsOf(n); k++) {
-          boolean is = order.stands(world, order.image(names.promise(n, k)));
-          code |= elementIf(is, names.lower(n, k));
-        }
-        put(codes, n, code);
-      }
-    }
-
-    private int elementIf(boolean is, int name) {
-      return is ? 1 << codeOf(name) : 0;
     }
 
     int codeOf(int name) {
       return at(codes, name);
     }
 
+    /** Tells whether a formula is so in the world entered. */
     boolean agrees(int formula) {
       return isSo(formula, 1);
+    }
+
+    /** Enters each world in turn; returns those in which a formula is so. */
+    int worldsOf(int formula) {
+      int worlds = order.ends();
+      int agreeing = 0;
+      for (int world = 0; world < order.size(); world++) {
+        if (contains(worlds, world)) {
+          enter(world, false);
+          agreeing |= agrees(formula) ? 1 << world : 0;
+        }
+      }
+      return agreeing;
     }
 
     private boolean isSo(int formula, int deep) {
@@ -1264,7 +1251,7 @@ public final class Genericwood {
 
     /** The code of what a term stands for. */
     private int meant(int term) {
-      return isLetter(term) ? at(letters, term - FIRST_LETTER) : codeOf(term);
+      return isLetter(term) ? at(letters, term - FIRST_LETTER) : at(codes, term);
     }
   }
 }
