@@ -799,7 +799,7 @@ public final class Genericwood {
       rankAll(heights, NONE, NONE);
     }
 
-    /** Ranks all names as if one had one more pair. The name in a pair is lower, so ranked ahead. */
+    /** Ranks all names as if one had one more pair. Names in pairs are lower, so ranked ahead. */
     private void rankAll(int[] row, int name, int lower) {
       for (int n = 0; n < count; n++) {
         int height = n == name ? 1 + at(row, lower) : 0;
