@@ -3,6 +3,7 @@ public final class EdgesOfConditions {
   private static final Due.Recipe NONE = Due.nothing();
   private static final Due.Recipe ONE = Due.order(1);
   private static final Due.Recipe CHAIN = Due.order(2, 1, 0);
+  private static final Due.Recipe UPSIDE = Due.order(2, 0, 1);
   private static final Due.Recipe FORK = Due.order(3, 1, 0, 2, 0);
   /** 2 below 0 and below 1, which are beside each other. */
   private static final Due.Recipe VEE = Due.order(3, 2, 0, 2, 1);
@@ -190,6 +191,8 @@ public final class EdgesOfConditions {
     Due.due(9, "all of 7 but 0", SEVEN, x -> x.isDense(126), false);
     Due.due(9, "the lowest of 7 in a row", LADDER, x -> x.isDense(64), true);
     Due.due(9, "all but the lowest of 7 in a row", LADDER, x -> x.isDense(63), false);
+    Due.due(9, "a lower number below", UPSIDE, x -> x.isDense(1), true);
+    Due.due(9, "a higher number above", UPSIDE, x -> x.isDense(2), false);
     Due.due(9, "all last ones", TREE, x -> x.isDense(12), true);
     Due.due(9, "all but a last one", TREE, x -> x.isDense(7), false);
     Due.due(9, "the one above all alone", FORK, x -> x.isDense(1), false);
@@ -203,6 +206,8 @@ public final class EdgesOfConditions {
     Due.due(10, "the one above all alone", TREE, x -> x.isFilter(1), true);
     Due.due(10, "one without what is above", TREE, x -> x.isFilter(2), false);
     Due.due(10, "one without the one far above", LADDER, x -> x.isFilter(126), false);
+    Due.due(10, "one without a higher number above", UPSIDE, x -> x.isFilter(1), false);
+    Due.due(10, "a higher number above alone", UPSIDE, x -> x.isFilter(2), true);
     Due.due(10, "one without one in between", LADDER, x -> x.isFilter(125), false);
     Due.due(10, "all of 7 in a row", LADDER, x -> x.isFilter(127), true);
     Due.due(10, "two with none below both", FORK, x -> x.isFilter(7), false);
@@ -237,6 +242,7 @@ public final class EdgesOfConditions {
     Due.due(12, "one", ONE, x -> x.isSeparative(), true);
     Due.due(12, "7 beside each other", SEVEN, x -> x.isSeparative(), true);
     Due.due(12, "two in a row", CHAIN, x -> x.isSeparative(), false);
+    Due.due(12, "two in a row, the lower number below", UPSIDE, x -> x.isSeparative(), false);
     Due.due(12, "7 in a row", LADDER, x -> x.isSeparative(), false);
     Due.due(12, "two below one", FORK, x -> x.isSeparative(), true);
     Due.due(12, "one below two", VEE, x -> x.isSeparative(), false);
@@ -268,6 +274,7 @@ public final class EdgesOfConditions {
     Due.due(14, "one of 7 beside each other", SEVEN, x -> x.closure(64), 64);
     Due.due(14, "the lowest of 7 in a row has all", LADDER, x -> x.closure(64), 127);
     Due.due(14, "the highest of 7 in a row has all", LADDER, x -> x.closure(1), 127);
+    Due.due(14, "a lower number below has both", UPSIDE, x -> x.closure(1), 3);
     Due.due(14, "last ones below one, each below another of the set", FORK, x -> x.closure(6), 7);
     Due.due(14, "one of two below", FORK, x -> x.closure(2), 2);
     Due.due(14, "one that has the same last one", TREE, x -> x.closure(2), 10);

@@ -200,6 +200,32 @@ public final class EdgesOfJudgements {
     judged("and, of which one is forced in a branch", sure, 4, 2, 2, 2);
   }
 
+  /** Depth 5 by the first formula of both alone, by the second one alone, and by both. */
+  private static void deepBoth() {
+    for (char kind : new char[] {'a', 'o'}) {
+      for (int side = 1; side < 4; side++) {
+        int one = side;
+        Due.Recipe deep = then(FORK, x -> x.atom('e', 0, 2), x -> deepen(x, kind, one, 0));
+        judged("so by depth 5, " + kind + " " + side, deep, 4, 6, 7, 7);
+        Due.Recipe low = then(FORK, x -> x.atom('e', 0, 2), x -> x.atom('e', 0, 1), x -> deepen(x, kind, one, 1));
+        Due.Recipe high = then(FORK, x -> x.atom('e', 0, 1), x -> x.atom('e', 0, 2), x -> deepen(x, kind, one, 1));
+        boolean all = kind == 'o' || side == 3;
+        judged("above one so in a branch, by depth 5, " + kind + " " + side, high, 5, all ? 6 : 2, all ? 7 : 2,
+            all ? 7 : 2);
+        boolean some = kind == 'o' && side < 3;
+        judged("so in a branch by depth 5, " + kind + " " + side, low, 5, some ? 6 : 2, some ? 7 : 2, some ? 7 : 2);
+      }
+    }
+  }
+
+  /** Tells 4 formulas, each of the one ahead and of 0, or of the one ahead twice, up to depth 5. */
+  private static void deepen(Genericwood x, char kind, int side, int last) {
+    int made = last;
+    for (int i = 0; i < 4; i++) {
+      made = x.both(kind, side == 2 ? 0 : made, side == 1 ? 0 : made);
+    }
+  }
+
   private static void notBelow() {
     Due.Recipe row = then(CHAIN, x -> x.atom('e', 0, 1), x -> x.not(0), x -> x.not(1), x -> x.not(2),
         x -> x.not(3));
@@ -289,6 +315,16 @@ public final class EdgesOfJudgements {
         x -> x.forcesLike(0, 0, 1), x -> x.unpair(1));
     atom("in, asked, then a pair less", asked, 'e', 0, 1, 0, 0, 0);
     atom("alike, asked, then a pair less", asked, '=', 0, 1, 6, 7, 7);
+    Due.Recipe more = then(FORK, x -> x.valueLike(0, 1), x -> x.forcesLike(0, 0, 1), x -> x.name());
+    atom("a new name after others were asked, like itself", more, '=', 4, 4, 6, 7, 7);
+    atom("a new name after others were asked, like one without pairs", more, '=', 0, 4, 6, 7, 7);
+    atom("a new name after others were asked, in one with pairs", more, 'e', 4, 2, 6, 7, 7);
+    Due.Recipe both = then(FORK, x -> x.valueIn(0, 1), x -> x.forcesIn(0, 0, 1), x -> x.condition(),
+        Due.pairs(1, 0, 2));
+    atom("a condition and a pair more after others were asked, in", both, 'e', 0, 1, 6, 7, 6);
+    Due.Recipe split = then(FORK, x -> x.valueLike(2, 3), x -> x.forcesLike(0, 2, 3), x -> x.condition(),
+        x -> x.name());
+    atom("a condition and a name more after others were asked, alike", split, '=', 2, 3, 14, 15, 14);
     Due.Recipe kept = then(FORK, x -> x.valueIn(0, 1), x -> Due.answer(x, y -> y.pair(1, 0, 1)));
     atom("in, asked, then a pair refused", kept, 'e', 0, 1, 2, 2, 2);
   }
@@ -351,6 +387,7 @@ public final class EdgesOfJudgements {
     inAnotherOne();
     alike();
     orBelowAndAt();
+    deepBoth();
     notBelow();
     someBelowAndAt();
     eachBelow();

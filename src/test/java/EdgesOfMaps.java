@@ -48,6 +48,9 @@ public final class EdgesOfMaps {
     Due.due(37, "again by the other way round", then(FORK, swaps(0, 1)), x -> x.swap(1, 0), true);
     Due.due(37, "again by other ones", then(FORK, swaps(0, 1, 1, 2)), x -> x.swap(0, 2), true);
     Due.due(37, "two beside each other", Due.order(2), x -> x.swap(0, 1), true);
+    Due.due(37, "one above 0 for one beside it", Due.order(3, 0, 1), x -> x.swap(1, 2), false);
+    Due.due(37, "one below 0 for one beside it", Due.order(3, 1, 0), x -> x.swap(1, 2), false);
+    Due.due(37, "0 for one beside both", Due.order(3, 1, 0), x -> x.swap(0, 2), false);
     Due.due(37, "any of 7 beside each other", then(Due.order(7), swaps(0, 1, 1, 2, 2, 3, 3, 4, 4, 5)),
         x -> x.swap(5, 6), true);
     Due.due(37, "the ends of 7 in a row", Due.order(7, 1, 0, 2, 1, 3, 2, 4, 3, 5, 4, 6, 5), x -> x.swap(0, 6), false);
@@ -117,6 +120,23 @@ public final class EdgesOfMaps {
         x -> x.becomes(1, 1), 1);
   }
 
+  /** The map moves names where it is asked whether they are fixed, and nowhere else. */
+  private static void movesNothingElse() {
+    Due.Recipe moved = then(NAMED, x -> x.atom('e', 0, 1), swaps(1, 2));
+    Due.due(21, "becomes, after a map", moved, x -> x.becomes(1, 1), 1);
+    Due.due(22, "valueIn, after a map", moved, x -> x.valueIn(0, 1), 2);
+    Due.due(23, "valueLike, after a map", moved, x -> x.valueLike(0, 1), 4);
+    Due.due(24, "forcesIn, after a map", moved, x -> x.forcesIn(1, 0, 1), true);
+    Due.due(25, "forcesLike, after a map", moved, x -> x.forcesLike(2, 0, 1), true);
+    Due.due(32, "value, after a map", moved, x -> x.value(0), 2);
+    Due.due(33, "forces, after a map", moved, x -> x.forces(1, 0), true);
+    Due.due(34, "weakly, after a map", moved, x -> x.weakly(1, 0), true);
+    Due.due(35, "holds, after a map", moved, x -> x.holds(0, 1), true);
+    Due.due(36, "against, after a map", moved, x -> x.against(0), 2);
+    Due.due(13, "cut, after a map", moved, x -> x.cut(1), 2);
+    Due.due(26, "a mixture, after a map", moved, x -> x.becomes(x.mix(1, 1, 0, 2), 1), 1);
+  }
+
   /** The sum of the document, in numbers without end, from the steps that it adds. */
   private static BigInteger endless(int... steps) {
     BigInteger sum = BigInteger.valueOf(7);
@@ -175,6 +195,8 @@ public final class EdgesOfMaps {
     Due.due(44, "names and conditions", NAMED, x -> x.isSound(), true);
     Due.due(44, "a formula that is not closed", then(NAMED, x -> x.atom('e', 100, 101)), x -> x.isSound(), true);
     Due.due(44, "a formula that is not closed, without names", x -> x.atom('e', 100, 101), x -> x.isSound(), true);
+    Due.due(44, "a formula that is not closed, with conditions alone", then(FORK, x -> x.atom('=', 100, 101)),
+        x -> x.isSound(), true);
     Due.due(44, "a formula without conditions", then(Due.names(1), x -> x.atom('=', 0, 0)), x -> x.isSound(), true);
     Due.due(44, "a map that does not keep the order", then(NAMED, swaps(0, 1)), x -> x.isSound(), true);
     Due.due(44, "standard names that are not below 0 everywhere by now", then(ONE, Due.standards(15), Due.order(1)),
@@ -259,6 +281,7 @@ public final class EdgesOfMaps {
     swap();
     goes();
     isFixed();
+    movesNothingElse();
     checksum();
     shares();
     isSound();

@@ -368,6 +368,9 @@ public final class EdgesOfNames {
         sumOf(63, 26, 36, 8, 16, 32, 0, 0, 1, 80, 1, 1 + 48, 1, 80, 1 + 48, 0));
     Due.due(26, "each name by its own condition alone",
         then(two, Due.pairs(2, 0, 5), Due.pairs(3, 1, 3), x -> x.mix(2, 1, 3, 2)), x -> x.rank(4), 0);
+    Due.due(26, "the condition 0 below both",
+        then(Due.order(3, 0, 1), Due.names(2), Due.pairs(1, 0, 1), x -> x.mix(1, 1, 0, 2)), x -> x.checksum(),
+        sumOf(1, 3, 4, 0, 1, 16, 1, 0, 16, 0));
     Due.due(26, "a pair that would stand twice, of one name",
         then(two, Due.pairs(3, 0, 3, 0, 1), x -> x.mix(3, 1, 0, 2)), x -> x.checksum(),
         sumOf(63, 26, 36, 8, 16, 32, 0, 0, 0, 1, 48, 16, 1, 48, 16, 64, 0));
@@ -384,6 +387,12 @@ public final class EdgesOfNames {
         Due.OPERATION);
     Due.refused(26, "5 pairs the other way round", then(two, Due.pairs(2, 0, 2), Due.pairs(3, 1, 0)),
         x -> x.mix(2, 2, 3, 1), Due.OPERATION);
+    Due.refused(26, "4 pairs of the first name, and one of the second",
+        then(two, Due.pairs(2, 0, 5), Due.pairs(3, 1, 0, 0, 4)), x -> x.mix(3, 1, 2, 2), Due.OPERATION);
+    Due.due(26, "4 pairs of the first name, and none of the second", then(two, Due.pairs(3, 1, 0, 0, 4)),
+        x -> x.unpair(x.mix(3, 1, 2, 2)), 3);
+    Due.refused(26, "one pair of the first name, and 4 of the second",
+        then(two, Due.pairs(2, 0, 5), Due.pairs(3, 1, 0, 0, 4)), x -> x.mix(2, 2, 3, 1), Due.OPERATION);
     Due.refused(26, "6 pairs of the first name alone", then(two, Due.pairs(3, 0, 0, 1, 0)),
         x -> x.mix(3, 1, 0, 2), Due.OPERATION);
     Due.refused(26, "6 pairs of the second name alone", then(two, Due.pairs(3, 0, 0, 1, 0)),

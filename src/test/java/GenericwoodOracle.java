@@ -2,10 +2,10 @@ import java.util.HashMap;
 import java.util.Map;
 import java.util.Random;
 
-/** Long runs of calls, each answered by Genericwood and by a model that is the document word by word. */
+/** Runs of 512 calls, each answered by Genericwood and by a model that is the document word by word. */
 public final class GenericwoodOracle {
   private static final int RUNS = 1500;
-  private static final int CALLS = 400;
+  private static final int CALLS = 512;
   private static int wrong = 0;
   private static final Map<String, Map<String, Integer>> seen = new HashMap<>();
 
@@ -14,6 +14,7 @@ public final class GenericwoodOracle {
   private final Genericwood wood = new Genericwood();
   private final int run;
   private final StringBuilder told = new StringBuilder();
+  private int calls;
 
   private GenericwoodOracle(int run) {
     this.run = run;
@@ -84,6 +85,7 @@ public final class GenericwoodOracle {
   private void call(String name, Object... with) {
     Object want = Calls.answer(model, name, with);
     Object got = Calls.answer(wood, name, with);
+    calls++;
     told.append(name).append(java.util.Arrays.toString(with)).append(" = ").append(want).append("; ");
     seen.computeIfAbsent(name, k -> new HashMap<>()).merge(
         want instanceof String || want instanceof Boolean ? want.toString() : "number", 1, Integer::sum);
@@ -107,7 +109,9 @@ public final class GenericwoodOracle {
       case 12: call("both", aKind("ao"), aFormula(), aFormula()); break;
       case 13: call("not", aFormula()); break;
       case 14: case 15: case 16:
-        call("bind", aKind("AE"), rarely() ? any(-1, 100) : any(0, random.nextInt(4) == 0 ? 3 : 1), aTerm(), aFormula()); break;
+        call("bind", aKind("AE"), rarely() ? any(-1, 100) : any(0, random.nextInt(4) == 0 ? 3 : 1), aTerm(),
+            aFormula());
+        break;
       default: if (random.nextInt(4) == 0) call("clear"); else aSwap();
     }
   }
@@ -153,14 +157,14 @@ public final class GenericwoodOracle {
     for (int i = any(0, 6); i > 0; i--) call("under", aCondition(), aCondition());
     for (int i = any(0, 6); i > 0; i--) call("name");
     for (int i = any(0, 14); i > 0; i--) call("pair", aName(), aName(), aCondition());
-    for (int i = 0; i < CALLS; i++) {
+    // A turn makes 3 calls at most, so that there is room for the last two.
+    for (int turn = 0; calls < CALLS - 4; turn++) {
       if (random.nextInt(3) == 0) change();
       else ask();
-      if (i % 40 == 0) call("checksum");
+      if (turn % 40 == 0) call("checksum");
     }
-    call("checksum");
     call("isSound");
-    if (told.toString().split("; ").length > 512) throw new IllegalStateException("a run is too long");
+    while (calls < CALLS) call("checksum");
   }
 
   public static void main(String[] args) {

@@ -43,7 +43,9 @@ public final class GenericwoodSweep {
     tests++;
     if (!want.equals(got)) {
       wrong++;
-      if (wrong < 20) System.out.println(what + ": " + name + Arrays.toString(with) + " answered " + got + ", due is " + want);
+      if (wrong < 20) {
+        System.out.println(what + ": " + name + Arrays.toString(with) + " answered " + got + ", due is " + want);
+      }
     }
   }
 
@@ -141,7 +143,8 @@ public final class GenericwoodSweep {
     String tree = times(4, "condition") + "under 1 0; under 2 0; under 3 1; ";
     String ladder = times(7, "condition") + "under 1 0; under 2 1; under 3 2; under 4 3; under 5 4; under 6 5; ";
     String named = times(4, "name") + "pair 1 0 1; pair 2 0 0; pair 3 1 0; pair 3 2 2; ";
-    String tower = times(6, "name") + "pair 1 0 0; pair 2 1 0; pair 3 2 0; pair 5 0 0; pair 5 0 1; pair 5 0 2; pair 5 0 3; ";
+    String tower = times(6, "name") + "pair 1 0 0; pair 2 1 0; pair 3 2 0; "
+        + "pair 5 0 0; pair 5 0 1; pair 5 0 2; pair 5 0 3; ";
     String deep = "atom e 0 1; not 0; not 1; both o 2 0; not 3; atom = 100 1; bind E 0 3 5; bind A 1 101 6; ";
     Map<String, List<Object[]>> woods = new LinkedHashMap<>();
     woods.put("nothing", new ArrayList<>());
