@@ -638,28 +638,6 @@ public final class GenericwoodPromises {
     return sumOf(15, 10, 4, 8, 0, 1, 16, 1, 0, 2, 1, 2 + 32, formulas);
   }
 
-  private static void firstExample() {
-    Genericwood x = example();
-    names(x, 2);
-    x.pair(1, 0, 1);
-    x.atom('e', 0, 1);
-    x.not(0);
-    x.both('o', 0, 1);
-    due(20, () -> x.standard(2), 4);
-    due(23, () -> x.valueLike(0, 2), 12);
-    due(26, () -> x.mix(1, 1, 3, 2), 5);
-    due(27, () -> x.atom('e', 100, 1), 3);
-    due(30, () -> x.bind('E', 0, 3, 3), 4);
-    due(35, () -> x.holds(4, 3), true);
-    due(39, () -> x.isFixed(1), true);
-    due(18, () -> x.unpair(1), 0);
-    due(40, () -> x.clear(), 5);
-    due(41, () -> x.checksum(), -7423387059951603197L);
-    due(42, () -> x.lastShare(), 0.5f);
-    due(43, () -> x.meanRank(), 0.6666666666666666);
-    due(44, () -> x.isSound(), true);
-  }
-
   /** A wood without conditions has names and formulas, but no worlds. */
   private static void withoutConditions() {
     Genericwood x = new Genericwood();
@@ -698,7 +676,6 @@ public final class GenericwoodPromises {
     nestedLetters();
     maps();
     clearAndSums();
-    firstExample();
     withoutConditions();
     System.out.println(wrong == 0 ? "all answers are as due" : wrong + " answers are not as due");
     if (wrong != 0) System.exit(1);
